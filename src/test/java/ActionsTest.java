@@ -65,6 +65,9 @@ public final class ActionsTest {
         Check.due("no stroke has begun", x.about(0), 1);
         Check.due("no stroke goes on", x.about(2), 0);
         Check.due("what was refused is not remembered", x.undo(), 6);
+        RuledStrokes y = new RuledStrokes();
+        Check.due("39 signs", Check.draw(y, "0,0-60,60-0,0-60,60-60,30"), 39);
+        Check.due("a break as the 40th", y.point(0, 0), 40);
     }
 
     private static void lifting() {
@@ -214,11 +217,35 @@ public final class ActionsTest {
         Check.due("signs", x.sample(0, 3), 40);
         Check.due("fewer are fine", x.set(0, 11), 10);
         Check.due("and back", x.set(0, 10), 11);
-        RuledStrokes y = new RuledStrokes();
-        Check.draw(y, "0,0-60,60-0,0-60,0/1,1/1,1");
-        Check.refused("42 signs by 7 with the breaks", Check.STATE, () -> y.set(0, 7));
-        Check.due("fewer by 8", y.set(0, 8), 10);
-        Check.due("signs by 8", y.about(3), 37);
+        breaksByAnotherRuling();
+    }
+
+    private static void breaksByAnotherRuling() {
+        String by7 = "0,0-60,60-0,0-";
+        dueSignsBy7(by7 + "60,0", 40);
+        dueSignsBy7(by7 + "60,0/1,1", 41);
+        dueSignsBy7(by7 + "55,0/1,1", 40);
+        dueSignsBy7(by7 + "55,0/1,1/1,1", 41);
+        dueSignsBy7(by7 + "48,0/1,1/1,1", 40);
+    }
+
+    /** By the ruling 7; one of more than 40 is refused at hand and as a sample. */
+    private static void dueSignsBy7(String text, int want) {
+        RuledStrokes x = new RuledStrokes();
+        Check.draw(x, text);
+        for (int i = 0; i < 2; i++) {
+            if (want > 40) {
+                Check.refused(text + " by 7", Check.STATE, () -> x.set(0, 7));
+                Check.due(text + ": ruling", x.setting(0), 10);
+            } else {
+                Check.due(text + " by 7", x.set(0, 7), 10);
+                Check.due(text + ": signs", i == 0 ? x.about(3) : x.sample(0, 3), want);
+                x.set(0, 10);
+            }
+            if (i == 0) {
+                x.learn(1);
+            }
+        }
     }
 
     private static void undoing() {

@@ -124,6 +124,8 @@ public final class ScriptsAndSlotsTest {
         Check.due("learn, three samples, learn", x.runScript(3, 390007000339000L), 2);
         Check.due("practise, practise", x.runScript(2, 9300093000L), 1);
         Check.due("lift, point, read", x.runScript(3, 200001050563000L), -1);
+        Check.due("lift, point, near", x.runScript(3, 200001050580005L), -1);
+        Check.due("point, near", x.runScript(2, 1050580005L), 1);
         Check.due("limit 1, read", x.runScript(2, 5100163000L), 1);
         Check.due("forget, forget, samples", x.runScript(3, 400004000070001L), 2);
         Check.due("forget the first, read as the other", x.runScript(2, 4000063000L), 1);
@@ -189,8 +191,11 @@ public final class ScriptsAndSlotsTest {
         RuledStrokes y = new RuledStrokes();
         Check.due("nothing to learn", y.simulate(seedOf(0), 1), 0);
         Check.due("nothing to practise", y.simulate(seedOf(1), 1), 0);
-        Check.due("seed 1", y.simulate(1, 99), new PlainModel().simulate(1, 99));
-        Check.due("seed -6", y.simulate(-6, 40), new PlainModel().simulate(-6, 40));
+        for (long seed = -60; seed < 60; seed++) {
+            int turns = 40 + (int) (seed & 63) % 60;
+            Check.due("seed " + seed, y.simulate(seed, turns), new PlainModel().simulate(seed, turns));
+        }
+        Check.due("no turn is taken with the object itself", y.about(0) + y.about(4) + y.about(5), 0);
     }
 
     private static void saving() {

@@ -56,6 +56,10 @@ public final class ThereIsTest {
         Check.due("practised(9, 1)", x.practised(9, 1), 0);
         Check.due("practised(9, 2)", x.practised(9, 2), 2);
         Check.due("practised(0, 0)", x.practised(0, 0), 0);
+        x.point(5, 5);
+        x.practise(0);
+        Check.due("practised(0, 0)", x.practised(0, 0) + x.practised(0, 1) + x.practised(0, 2), 1);
+        Check.due("with the name 0", x.about(5), 7);
         Check.refused("practised(-1, 0)", Check.ARGUMENT, () -> x.practised(-1, 0));
         Check.refused("practised(10, 0)", Check.ARGUMENT, () -> x.practised(10, 0));
         Check.refused("practised(0, -1)", Check.ARGUMENT, () -> x.practised(0, -1));

@@ -13,6 +13,7 @@ public final class WouldBeTest {
         bestRulings();
         rulingsThatDoNotCount();
         mirroredFigures();
+        forgottenOnes();
         nothingChanges();
         Check.end();
     }
@@ -247,6 +248,11 @@ public final class WouldBeTest {
         Check.learn(y, 1, "0,0-60,60-0,0-60,60-0,0-60,60-0,0");
         Check.learn(y, 2, "1,1");
         Check.due("by 10 there would be 72", y.bestRuling(), 16);
+        RuledStrokes z = new RuledStrokes();
+        z.set(0, 20);
+        Check.learn(z, 1, "1,1");
+        Check.learn(z, 2, "0,0-59,59-0,0-59,59-0,0-59,59-0,0-59,59");
+        Check.due("by 19 there would be 42", z.bestRuling(), 20);
     }
 
     private static void mirroredFigures() {
@@ -286,6 +292,26 @@ public final class WouldBeTest {
         Check.due("40 signs still", x.about(3), 40);
         Check.draw(x, "0,0-59,0-0,0-59,0-0,0-59,0");
         Check.due("36 signs when it is mirrored", x.mirrored(), 1);
+    }
+
+    /** A sample that was forgotten counts nowhere, though it was the last one. */
+    private static void forgottenOnes() {
+        RuledStrokes x = new RuledStrokes();
+        Check.learn(x, 1, hook(5, 0));
+        Check.learn(x, 1, hook(4, 0));
+        Check.learn(x, 2, "0,0-60,60-0,0-60,60");
+        Check.learn(x, 1, hook(3, 0));
+        x.forget(3);
+        Check.due("byOthers", x.byOthers(), 2);
+        x.forget(2);
+        Check.due("byOthers", x.byOthers(), 2);
+        Check.due("closest", x.closest(), -1);
+        Check.due("bestRuling", x.bestRuling(), -1);
+        Check.draw(x, hook(3, 0));
+        dueRead("near to the second", x, 0, 1, 2, 1);
+        Check.due("nearest(1)", x.nearest(1), 4);
+        Check.refused("nearest(2)", Check.INDEX, () -> x.nearest(2));
+        Check.due("it does not forbid a ruling", x.set(0, 5), 10);
     }
 
     private static void nothingChanges() {

@@ -409,7 +409,7 @@ public final class RuledStrokes {
         return at >= 0 && at < row.length ? row[at] : 0;
     }
 
-    /** Every row of numbers is written here or by copyCells, for the same reason. */
+    /** Every row of numbers is written here or by the two below, for the same reason. */
     private static void putCell(int[] row, int at, int value) {
         if (at >= 0 && at < row.length) {
             row[at] = value;
@@ -426,7 +426,7 @@ public final class RuledStrokes {
     }
 
     private static void copyRow(int[] from, int[] to) {
-        copyCells(from, 0, to, 0, Math.min(from.length, to.length));
+        System.arraycopy(from, 0, to, 0, Math.min(from.length, to.length));
     }
 
     /** Reads the figure at hand, counts what became of it and clears it; NONE without strokes. */

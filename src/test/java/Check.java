@@ -9,12 +9,24 @@ final class Check {
     }
 
     private static int wrong = 0;
+    private static String said = "";
 
     private Check() {
     }
 
+    /** Names the section and the sentence of the document that the checks behind it are about. */
+    static void says(String section, String sentence) {
+        said = section + ": " + sentence + "\n    ";
+    }
+
     static void due(String what, long got, long want) {
         if (got != want) {
+            tell(what + ": got " + got + ", due is " + want);
+        }
+    }
+
+    static void same(String what, String got, String want) {
+        if (!got.equals(want)) {
             tell(what + ": got " + got + ", due is " + want);
         }
     }
@@ -31,7 +43,7 @@ final class Check {
 
     static void tell(String fault) {
         wrong++;
-        System.out.println(fault);
+        System.out.println(said + fault);
     }
 
     static void end() {
@@ -41,44 +53,42 @@ final class Check {
         }
     }
 
-    /** Puts a text instead of the one in the buffer. */
-    static void write(RuledStrokes x, String text) {
-        x.clearText();
-        for (int i = 0; i < text.length(); i++) {
-            x.append(text.charAt(i));
-        }
-    }
-
-    /** Makes the figure of the text the one at hand. */
-    static int draw(RuledStrokes x, String text) {
-        write(x, text);
-        return x.draw();
-    }
-
-    /** Learns the figure of the text by the name. */
-    static int learn(RuledStrokes x, int name, String text) {
-        draw(x, text);
-        return x.learn(name);
-    }
-
     /** The signs of the figure at hand, one behind the other. */
-    static void dueSigns(String what, RuledStrokes x, String want) {
-        StringBuilder got = new StringBuilder();
+    static String signs(RuledStrokes x) {
+        StringBuilder signs = new StringBuilder();
         for (int k = 0; x.sign(k) != RuledStrokes.NONE; k++) {
-            got.append(x.sign(k));
+            signs.append(x.sign(k));
         }
-        if (!got.toString().equals(want)) {
-            tell(what + ": got signs " + got + ", due are " + want);
+        return signs.toString();
+    }
+
+    static String signsOf(RuledStrokes x, int s) {
+        StringBuilder signs = new StringBuilder();
+        for (int k = 0; x.signOf(s, k) != RuledStrokes.NONE; k++) {
+            signs.append(x.signOf(s, k));
         }
+        return signs.toString();
+    }
+
+    static void dueSigns(String what, RuledStrokes x, String want) {
+        same(what, signs(x), want);
     }
 
     static void dueSignsOf(String what, RuledStrokes x, int s, String want) {
-        StringBuilder got = new StringBuilder();
-        for (int k = 0; x.signOf(s, k) != RuledStrokes.NONE; k++) {
-            got.append(x.signOf(s, k));
+        same(what, signsOf(x, s), want);
+    }
+
+    /** read(0) to read(3). */
+    static void dueRead(String what, RuledStrokes x, int... want) {
+        for (int i = 0; i < 4; i++) {
+            due(what + ": read(" + i + ")", x.read(i), want[i]);
         }
-        if (!got.toString().equals(want)) {
-            tell(what + ": got signs " + got + ", due are " + want);
+    }
+
+    /** about(0), about(1) and so on. */
+    static void dueAbout(String what, RuledStrokes x, int... want) {
+        for (int i = 0; i < want.length; i++) {
+            due(what + ": about(" + i + ")", x.about(i), want[i]);
         }
     }
 }

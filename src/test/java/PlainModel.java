@@ -107,6 +107,15 @@ final class PlainModel {
         return crossings.stream().map(Crossing::sign).toList();
     }
 
+    /** The signs of the way from x and y to another point, one behind the other. */
+    static String signsOfWay(int x, int y, int toX, int toY, int d) {
+        StringBuilder signs = new StringBuilder();
+        for (int sign : way(new Point(x, y), new Point(toX, toY), d)) {
+            signs.append(sign);
+        }
+        return signs.toString();
+    }
+
     private List<Integer> handSigns() {
         return signs(now.hand, now.settings.get(0));
     }

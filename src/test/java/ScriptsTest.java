@@ -601,7 +601,8 @@ public final class ScriptsTest {
     }
 
     private static void simulateReturns() {
-        Check.says("Promise 27", "Returns 100 * (the samples at the end) + (how many figures were read right in them).");
+        Check.says("Promise 27", "Returns 100 * (the samples at the end) + (how many figures were read right in "
+                + "them).");
         RuledStrokes x = Scenes.two();
         x.practise(3);
         x.point(5, 5);

@@ -514,6 +514,24 @@ public final class WouldBeTest {
         Check.due("each of three strokes is mirrored", x.mirrored(), 6);
         x.set(1, 0);
         Check.due("each of three strokes, by the limit 0", x.mirrored(), 6);
+        mirroredFullStrokes();
+    }
+
+    /** Three strokes of 12 points, each of which crosses its lines with its first step. */
+    private static void mirroredFullStrokes() {
+        RuledStrokes x = new RuledStrokes();
+        x.set(1, 0);
+        Scenes.learn(x, 8, Scenes.figure("2422400"));
+        int[][] ways = {{5, 15}, {5, 25}, {25, 5}};
+        for (int[] way : ways) {
+            x.point(way[0], 5);
+            for (int i = 1; i < 12; i++) {
+                x.point(way[1], 5);
+            }
+            x.lift();
+        }
+        Check.dueSigns("36 points", x, "0400422");
+        Check.due("36 points are mirrored, each once", x.mirrored(), 8);
     }
 
     private static void mirroredReturns() {

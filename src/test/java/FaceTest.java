@@ -9,6 +9,7 @@ import java.util.ArrayList;
 import java.util.List;
 import java.util.Set;
 import java.util.TreeSet;
+import java.util.regex.Matcher;
 import java.util.regex.Pattern;
 
 /** The public face, and those rules of LANGUAGE.md that the class or its text show plainly. */
@@ -25,11 +26,73 @@ public final class FaceTest {
         "\\bdouble\\b", "\\bfloat\\b", "\\bsynchronized\\b", "\\bassert\\b", "Exact\\b",
         "\\bstatic \\{", "\" \\+", "\\+ \"", "[^\\x00-\\x7f]"};
 
+    private static final Path DOCUMENT = Path.of("../shared/DOC.md");
+    private static final Pattern BLOCK = Pattern.compile("```java\n(.*?)```", Pattern.DOTALL);
+    /** A method or constructor as a whole: its indent, its name and its parameters. */
+    private static final Pattern METHOD = Pattern.compile(
+            "(?m)^( +)(?:[\\w\\[\\]]+ )*(\\w+)\\(([^()]*)\\)[\\w, ]*\\{\n(?:(?s:.*?)\n)??\\1\\}");
+
     public static void main(String[] args) throws IOException {
+        String text = Files.readString(Path.of("src/main/java/RuledStrokes.java"));
         methods();
         fields();
-        source(Files.readString(Path.of("src/main/java/RuledStrokes.java")));
+        source(text);
+        sizes(text);
+        if (Files.exists(DOCUMENT)) {
+            declarations(Files.readString(DOCUMENT), text);
+        } else {
+            System.out.println("there is no " + DOCUMENT + " to compare the face with");
+        }
         Check.end();
+    }
+
+    /** The face as the document writes it: each line of it stands in the class to the letter. */
+    private static void declarations(String document, String text) {
+        Set<String> written = new TreeSet<>();
+        for (String line : text.split("\n")) {
+            if (line.startsWith("public ") || line.startsWith("    public ")) {
+                written.add(line.strip().replaceFirst("( \\{|;)$", ""));
+            }
+        }
+        Matcher block = BLOCK.matcher(document);
+        Check.due("the document has a face", block.find() ? 1 : 0, 1);
+        Set<String> due = new TreeSet<>();
+        for (String line : block.group(1).split("\n")) {
+            due.add(line.strip().replaceFirst("( \\{|;)$", ""));
+        }
+        due.remove("}");
+        for (String line : due) {
+            Check.due("the class has: " + line, written.contains(line) ? 1 : 0, 1);
+        }
+        for (String line : written) {
+            Check.due("the document has: " + line, due.contains(line) ? 1 : 0, 1);
+        }
+    }
+
+    /** Rule 11: parameters, lines of a method, classes, fields beside the constants. */
+    private static void sizes(String text) {
+        List<String> found = new ArrayList<>();
+        Matcher method = METHOD.matcher(text);
+        while (method.find()) {
+            String name = method.group(2);
+            Check.due(name + " has at most 60 lines", method.group().split("\n").length <= 60 ? 1 : 0, 1);
+            Check.due(name + " has at most 7 parameters", method.group(3).split(",").length <= 7 ? 1 : 0, 1);
+            found.add(name);
+        }
+        List<Class<?>> classes = new ArrayList<>(List.of(RuledStrokes.class.getDeclaredClasses()));
+        classes.add(RuledStrokes.class);
+        int methods = 0;
+        for (Class<?> of : classes) {
+            int fields = 0;
+            for (Field field : of.getDeclaredFields()) {
+                fields += Modifier.isStatic(field.getModifiers()) ? 0 : 1;
+            }
+            Check.due(of + " has at most 20 fields", fields <= 20 ? 1 : 0, 1);
+            methods += of.getDeclaredMethods().length;
+            found.removeIf(of.getSimpleName()::equals);
+        }
+        Check.due("at most 12 classes", classes.size() <= 12 ? 1 : 0, 1);
+        Check.due("methods that were found in the text", found.size(), methods);
     }
 
     private static void methods() {

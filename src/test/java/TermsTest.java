@@ -231,7 +231,7 @@ public final class TermsTest {
     private static void everyWay() {
         Check.says("SIGNATURES", "The signs of a way between two points are in the order of these places");
         int[] on = {0, 1, 9, 10, 11, 20, 29, 30, 40, 59, 60};
-        for (int d = 5; d <= 20; d += 5) {
+        for (int d = 5; d <= 20; d++) {
             for (int x : on) {
                 for (int y : on) {
                     for (int toX : on) {
